@@ -702,6 +702,13 @@ public final class PromiseTests {
         due.is("22 held long enough", y.load(1, 5), 2);
         due.is("22 held long enough", y.load(1, 100), 2);
         due.is("22 not there yet", y.load(1, 4), NONE);
+        // Held for its load alone, from the eighth second behind the first on.
+        HeldDoor z = withOne(OLD, 0);
+        z.person(WORKER, 27);
+        z.set(1, 1, 0);
+        due.is("22 nine", z.load(1, 100), 9);
+        z.set(1, 3, 28);
+        due.is("22 not even nine", z.load(1, 100), NONE);
         due.is("22 load stays", y.of(1, 2), 0);
         x.set(1, 4, 1);
         due.is("22 is in", x.load(1, 1), 0);
@@ -814,6 +821,14 @@ public final class PromiseTests {
         fault("bare", 0);
         fault("Worker 5", 0);
         fault("worker -5", 7);
+        fault("workerz 5", 0);
+        fault("aworker 5", 0);
+        fault("worker 5 barez", 9);
+        fault("worker 5 bare{", 13);
+        fault("worker 5 bare`", 13);
+        fault("worker 5/", 8);
+        fault("worker 5:", 8);
+        fault("worker 5<", 8);
         fault("worker\t5", 6);
         fault("worker 5 #", 9);
         fault("worker 5,new 5", 8);
@@ -854,9 +869,13 @@ public final class PromiseTests {
         int[] widths = {8, 16, 64};
         for (int bits : widths) {
             due.is("26 n", x.sheet(3, bits, 40), 40);
-            due.is("26 last number", x.write(3, 39, 5), 0);
+            for (int i = 0; i < 40; i++) {
+                due.is("26 all 0", x.write(3, i, i + 1), 0);
+            }
             due.is("26 again", x.sheet(3, bits, 40), 40);
-            due.is("26 all 0", x.write(3, 39, 0), 0);
+            for (int i = 0; i < 40; i++) {
+                due.is("26 all 0 again", x.write(3, i, i + 1), 0);
+            }
             due.is("26 of none", x.sheet(3, bits, 0), 0);
             due.is("26 not missing", x.lays(3), 0);
         }
