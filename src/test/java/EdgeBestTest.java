@@ -25,6 +25,7 @@ public final class EdgeBestTest extends Edge {
         orderLeastAndMostSeconds();
         orderOutside();
         takeFewest();
+        takeSoThatItIsSentAway();
         takeOfSeveralTheLeast();
         takeOneThatHasOne();
         takeLeastAndMostSeconds();
@@ -298,6 +299,27 @@ public final class EdgeBestTest extends Edge {
             x.person(WORKER, 0);
             return withBare(x, WORKER, 4);
         }, x -> x.take(1), 1);
+    }
+
+    private static void takeSoThatItIsSentAway() {
+        // A guard is by, and the door is open: one whose badge was taken is asked, and sent away.
+        onlyTells("21 sent away", () -> {
+            HeldDoor x = withOne(GUARD, 0);
+            x.seconds(1);
+            x.person(WORKER, 0);
+            return open(x, 60);
+        }, x -> x.take(1), 1);
+        // A guard holds it for one with a badge alone: without 2's, neither 2 nor 3 behind it comes in;
+        // without 1's, 1 alone stays outside; without 0's, nobody does.
+        onlyTells("21 not held for", () -> {
+            HeldDoor x = withOne(WORKER, 500);
+            x.set(0, IN, 1);
+            x.person(GUARD, 0);
+            x.person(WORKER, 8);
+            withBare(x, WORKER, 8);
+            x.door(0, 0);
+            return x;
+        }, x -> x.take(2), 2);
     }
 
     // Promise 21: "of several the least"
