@@ -930,7 +930,9 @@ public final class HeldDoor {
             place = 0;
             nextToken();
             for (int items = 1; items <= MOST_BYTES; items++) {
-                if (!tellItem(scene)) {
+                int kind = kindNamed();
+                boolean isTold = kind < 0 ? tellDoor(scene) : tellPerson(scene, kind);
+                if (!isTold) {
                     return -1 - start;
                 }
                 if (token == END) {
@@ -945,7 +947,7 @@ public final class HeldDoor {
         }
 
         /** False if the token that it stands at can't stand there. */
-        private boolean tellItem(Scene scene) {
+        private boolean tellDoor(Scene scene) {
             if (isWord("care")) {
                 if (!isNumberNext(MOST_CARE)) {
                     return false;
@@ -957,18 +959,15 @@ public final class HeldDoor {
                 }
                 scene.open = number;
             } else {
-                return tellPerson(scene);
+                return false;
             }
             nextToken();
             return true;
         }
 
-        private boolean tellPerson(Scene scene) {
-            int kind = kindNamed();
-            if (kind < 0 || scene.isFull()) {
-                return false;
-            }
-            if (!isNumberNext(MOST_FEET)) {
+        /** False as above; for one too many that token is the name of its kind, so it is asked before the number. */
+        private boolean tellPerson(Scene scene, int kind) {
+            if (scene.isFull() || !isNumberNext(MOST_FEET)) {
                 return false;
             }
             int p = scene.add(kind, number);

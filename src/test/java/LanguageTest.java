@@ -6,7 +6,9 @@ import java.nio.charset.StandardCharsets;
 import java.nio.file.Files;
 import java.nio.file.Path;
 import java.util.Arrays;
+import java.util.Map;
 import java.util.Set;
+import java.util.TreeMap;
 import java.util.TreeSet;
 import java.util.regex.Matcher;
 import java.util.regex.Pattern;
@@ -18,6 +20,8 @@ public final class LanguageTest {
         + " care(int) kind(int,int) far(int,int) order(int) take(int) load(int,int) feed(int,int) wipe() morning()"
         + " sheet(int,int,int) write(int,int,long) copy(int,int,int,int,int) lays(int) book(int,int) read(int,int)"
         + " image() undo() tear() count(int) status(int)";
+
+    private static final Pattern HEAD = Pattern.compile("\n( +)[a-zA-Z][a-zA-Z\\[\\] ]*\\([^;{}]*\\) \\{(?=\n)");
 
     private static final Due due = new Due("LanguageTest");
 
@@ -100,19 +104,78 @@ public final class LanguageTest {
         while (m.find()) {
             due.isTrue("'" + m.group() + "' stands in the source", false);
         }
+        library(code);
         shortMethods(code);
+        shallowCalls(code);
+    }
+
+    /** Rule 4: only what stands there; here, only what the class needs of it. */
+    private static void library(String code) {
+        Set<String> fine = new TreeSet<>(Arrays.asList("Math.min", "Math.max", "Integer.bitCount", "System.arraycopy"));
+        for (Class<?> c : HeldDoor.class.getDeclaredClasses()) {
+            for (Method m : c.getDeclaredMethods()) {
+                fine.add(c.getSimpleName() + "." + m.getName());
+            }
+        }
+        Matcher call = Pattern.compile("\\b[A-Z]\\w*\\.\\w+(?=\\()").matcher(code);
+        while (call.find()) {
+            due.isTrue("'" + call.group() + "' is of the library", fine.contains(call.group()));
+        }
+        Matcher made = Pattern.compile("\\bnew +(\\w+)").matcher(code);
+        while (made.find()) {
+            due.isTrue("'" + made.group() + "' is fine", made.group(1).matches("int|long|byte|Scene|Text|Sheet"));
+        }
+    }
+
+    /** Rules 8 and 11: no method comes to itself again, and at most eight calls stand open at once. */
+    private static void shallowCalls(String code) {
+        Map<String, Set<String>> calls = new TreeMap<>();
+        Matcher head = HEAD.matcher(code);
+        while (head.find()) {
+            if (isMethod(head.group())) {
+                Set<String> called = calls.computeIfAbsent(nameIn(head.group()), name -> new TreeSet<>());
+                Matcher call = Pattern.compile("\\b(\\w+)\\(").matcher(bodyOf(code, head));
+                while (call.find()) {
+                    called.add(call.group(1));
+                }
+            }
+        }
+        for (String name : calls.keySet()) {
+            due.isTrue(name + " goes " + depthOf(name, calls, 0) + " deep", depthOf(name, calls, 0) <= 8);
+        }
+    }
+
+    private static int depthOf(String name, Map<String, Set<String>> calls, int above) {
+        int deepest = 0;
+        // A method that comes to itself again would never end here: 20 is far above what is fine.
+        if (above < 20) {
+            for (String called : calls.getOrDefault(name, Set.of())) {
+                deepest = Math.max(deepest, depthOf(called, calls, above + 1));
+            }
+        }
+        return calls.containsKey(name) ? deepest + 1 : 0;
+    }
+
+    private static boolean isMethod(String head) {
+        return !head.trim().matches("(?s)(if|for|while|switch|else)\\b.*");
+    }
+
+    private static String nameIn(String head) {
+        return head.substring(0, head.indexOf('(')).replaceAll("(?s).*\\s", "");
+    }
+
+    private static String bodyOf(String code, Matcher head) {
+        return code.substring(head.end(), code.indexOf("\n" + head.group(1) + "}", head.end() - 1) + 1);
     }
 
     private static void shortMethods(String code) {
-        Matcher head = Pattern.compile("\n( +)[a-zA-Z][a-zA-Z\\[\\] ]*\\([^;{}]*\\) \\{\n").matcher(code);
+        Matcher head = HEAD.matcher(code);
         int heads = 0;
         while (head.find()) {
-            if (head.group().trim().matches("(?s)(if|for|while|switch|else)\\b.*")) {
-                continue;
+            if (isMethod(head.group())) {
+                heads++;
+                due.isTrue("lines of " + head.group().trim(), bodyOf(code, head).lines().count() <= 58);
             }
-            heads++;
-            int end = code.indexOf("\n" + head.group(1) + "}", head.end() - 1);
-            due.isTrue("lines of " + head.group().trim(), code.substring(head.start() + 1, end).lines().count() <= 60);
         }
         due.isTrue("methods found", heads > 60);
     }
